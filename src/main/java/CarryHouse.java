@@ -678,23 +678,20 @@ public final class CarryHouse {
         }
 
         private boolean takeEnd() {
-            if (scanner.kind != Scanner.END || scanner.isCut()) {
-                return fail(CANT_COME, scanner.start);
-            }
-            return true;
+            boolean good = scanner.kind == Scanner.END && !scanner.isCut();
+            return good || fail(CANT_COME, scanner.start);
         }
 
         private boolean takeOpening(int sign) {
-            if (scanner.kind == sign && opened >= MOST_OPEN) {
+            if (scanner.kind != sign) {
+                return fail(CANT_COME, scanner.start);
+            }
+            if (opened >= MOST_OPEN) {
                 return fail(TOO_MANY, scanner.start);
             }
             opened++;
-            return takeSign(sign);
-        }
-
-        private boolean takeClosing(int sign) {
-            opened--;
-            return takeSign(sign);
+            scanner.advance();
+            return true;
         }
 
         private boolean readBody() {
@@ -758,28 +755,32 @@ public final class CarryHouse {
         }
 
         private boolean readOne() {
+            int start = scanner.start;
             if (scanner.kind == Scanner.NUMBER) {
-                int start = scanner.start;
                 int number = scanner.value;
                 scanner.advance();
                 return readQuota(start, number);
             }
             if (scanner.kind == '(') {
-                return countOne(scanner.start) && takeOpening('(') && readRule() && takeClosing(')');
+                boolean good = countOne(start) && takeOpening('(') && readRule() && takeSign(')');
+                opened--;
+                return good;
             }
-            return scanner.isLone() ? readMember() : readName();
+            boolean good = (scanner.isLone() ? noteMember() : noteName()) && countOne(start);
+            scanner.advance();
+            return good;
         }
 
-        private boolean readMember() {
+        private boolean noteMember() {
             int member = scanner.letter();
             if (member < 0 || member >= members) {
                 return fail(NOT_AS_TOLD, scanner.start);
             }
             program.add(Program.MEMBER, member);
-            return takeCounted();
+            return true;
         }
 
-        private boolean readName() {
+        private boolean noteName() {
             if (!scanner.isName()) {
                 return fail(CANT_COME, scanner.start);
             }
@@ -788,13 +789,7 @@ public final class CarryHouse {
                 return fail(WRONG_NAME, scanner.start);
             }
             program.add(Program.NAME, name);
-            return takeCounted();
-        }
-
-        private boolean takeCounted() {
-            boolean good = countOne(scanner.start);
-            scanner.advance();
-            return good;
+            return true;
         }
 
         private boolean countOne(int start) {
@@ -816,7 +811,8 @@ public final class CarryHouse {
                 good = readItem();
             }
             program.add(Program.QUOTA, number);
-            return good && takeClosing(']');
+            opened--;
+            return good && takeSign(']');
         }
 
         private boolean readItem() {
@@ -861,7 +857,6 @@ public final class CarryHouse {
         Statute law;
         int members;
         private int full;
-        private boolean compared;
         int leastCount;
         int hinderCount;
         int needed;
@@ -890,13 +885,13 @@ public final class CarryHouse {
             law = statute;
             members = memberCount;
             full = (1 << memberCount) - 1;
-            compared = false;
             leastCount = list(least, false);
             hinderCount = list(hinder, true);
             markNeeded();
             for (int m = 0; m < members; m++) {
                 swings[m] = countSwings(m);
             }
+            compareAll();
         }
 
         /** Sets go to their size's part of the row, each part by rising numbers. */
@@ -1006,9 +1001,6 @@ public final class CarryHouse {
 
         /** 1 a is STRONGER than b, -1 b than a, 0 ALIKE, 2 neither. */
         int compare(int a, int b) {
-            if (!compared) {
-                compareAll();
-            }
             boolean over = (atLeast[a] >> b & 1) != 0;
             boolean under = (atLeast[b] >> a & 1) != 0;
             if (over) {
@@ -1026,7 +1018,6 @@ public final class CarryHouse {
                     }
                 }
             }
-            compared = true;
         }
 
         private boolean isAtLeast(int a, int b) {

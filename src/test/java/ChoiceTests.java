@@ -104,6 +104,10 @@ public final class ChoiceTests {
         CarryHouse x = Check.house(2, "carry a and b;");
         Check.rank(x, 1, 2, 6, 0, 1, 3, 4, 5);
         Check.due("21: 0 and 2, which none beats", x.top(), 5);
+        CarryHouse last = Check.house(2, "carry b;");
+        Check.rank(last, 1, 6, 5, 4, 3, 2, 1, 0);
+        Check.due("21: the last one alone", last.top(), 64);
+        Check.due("20: the last one alone", last.free(), 64);
         // a long way round: 0 over 1 over .. over 6 over 0, else the lesser of two members who differ
         CarryHouse way = Check.house(3, MAJORITY);
         Check.rank(way, 0, 6, 0, 1, 2, 3, 4, 5);
@@ -210,6 +214,14 @@ public final class ChoiceTests {
         }
         Check.due("25: a 61st", x.vote(0, true), -1);
         Check.due("25: sixty", x.count(3), 60);
+        Check.due("26: the first of them", x.unfit(0), 0);
+        CarryHouse fit = new CarryHouse();
+        for (int i = 0; i < 60; i++) {
+            fit.vote(7, true);
+        }
+        Check.due("26: sixty that fit", fit.unfit(0), -1);
+        Check.due("27: sixty", fit.sure(7, 0), 1);
+        Check.due("28: sixty", fit.open(0), 7);
     }
 
     private static void unfit() {

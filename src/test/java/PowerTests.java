@@ -44,6 +44,7 @@ public final class PowerTests {
         kinds(3, "carry a or b or c;", 7, 3, 1, 0, 0, 0, 1, 1);
         kinds(4, "carry b;", 8, 1, 1, 1, 3, 1, 1, 1);
         kinds(4, "carry b and c;", 4, 1, 2, 2, 2, 1, 0, 1);
+        kinds(4, "carry c and (a or b) or d and b;", 8, 3, 3, 0, 0, 0, 0, 0);
         kinds(1, "carry a;", 1, 1, 1, 1, 0, 1, 1, 1);
         kinds(1, "carry 2 of [a];", 0, 0, 1, 0, 1, 1, 0, 1);
         kinds(12, "carry 6 of [a b c d e f g h i j k l];", 2510, 924, 792, 0, 0, 0, 1, 1);
@@ -267,6 +268,12 @@ public final class PowerTests {
         // the 5000th row is the one; the 5001st would be
         Check.due("16: row 5000", Check.house(7, "carry 29 of [13*a 6*b 5*c 11*d 7*e 4*f 10*g];").weigh(), 46);
         Check.due("16: row 5001", Check.house(7, "carry 30 of [13*a 7*b 10*c 2*d 9*e 6*f 11*g];").weigh(), -2);
+        String[] weakestFirst = {
+            "carry 29 of [1*a 10*b 4*c 3*d 11*e 6*f 7*g 1*h 4*i 9*j];",
+            "carry 27 of [1*a 10*b 2*c 8*d 2*e 2*f 4*g 9*h 1*i 2*j 11*k];"
+        };
+        Check.due("16: row 5000, the weakest first", Check.house(10, weakestFirst[0]).weigh(), 56);
+        Check.due("16: row 5001, the weakest first", Check.house(11, weakestFirst[1]).weigh(), -2);
         Check.due("16: sum 60", Check.house(9, "carry 31 of [6*a 10*b 12*c 4*d 0*e 8*f 5*g 3*h 12*i];").weigh(), 60);
         Check.due("16: sum 61", Check.house(9, "carry 34 of [10*a 11*b 9*c 9*d 3*e 4*f 7*g 3*h 11*i];").weigh(), -1);
     }

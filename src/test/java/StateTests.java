@@ -303,6 +303,7 @@ public final class StateTests {
         faulty(3, "body aa:bb;body bb:a;carry aa;", 3, 8);
         faulty(3, "body aa:a;body aa:b;carry aa;", 3, 15);
         faulty(3, "body aa:a;body ab:b;carry ac;", 3, 26);
+        faulty(3, "body aa:a;carry ba;", 3, 16);
         faulty(3, "body aa:a;carry aaa;", 3, 16);
         faulty(3, "body aaa:a;carry aa;", 3, 17);
         good(3, "body aa:a;body aaa:aa;body ab:aaa and aa;carry ab;", 3);
