@@ -151,7 +151,8 @@ public final class OracleTests {
         int pick = random.nextInt(100);
         if (pick < 8) {
             Texts texts = new Texts(random, members);
-            feedBytes(random.nextInt(4) == 0 ? texts.weighted() : texts.next());
+            int kind = random.nextInt(8);
+            feedBytes(kind < 2 ? texts.weighted() : kind < 3 ? texts.crowded() : texts.next());
             call("statute", random.nextInt(12) == 0 ? wild() : day() + random.nextInt(4) - (random.nextInt(9) == 0 ? 1 : 0));
             call("fault");
         } else if (pick < 14) {

@@ -60,6 +60,37 @@ final class Texts {
         return text.append(quota).append(" of [").append(items).append("];").toString();
     }
 
+    /** A text near one of the limits: of ONES, of what is open at once, or of NAMES; often spoilt there. */
+    String crowded() {
+        List<String> tokens = new ArrayList<>();
+        int limit = random.nextInt(3);
+        for (int i = limit == 2 ? 14 + random.nextInt(4) : 0; i > 0; i--) {
+            tokens.addAll(List.of("body", "n" + (char) ('a' + i), ":", "a", ";"));
+        }
+        tokens.add("carry");
+        List<String> closing = new ArrayList<>();
+        for (int i = limit == 1 ? 10 + random.nextInt(4) : 0; i > 0; i--) {
+            boolean round = random.nextBoolean();
+            tokens.addAll(round ? List.of("(") : List.of("1", "of", "["));
+            closing.add(0, round ? ")" : "]");
+        }
+        tokens.addAll(List.of("1", "of", "["));
+        for (int i = limit == 0 ? 117 + random.nextInt(5) : 1; i > 0; i--) {
+            tokens.add("a");
+        }
+        if (random.nextBoolean()) {
+            tokens.add(STRAY[random.nextInt(STRAY.length)]);
+            tokens.add(STRAY[random.nextInt(STRAY.length)]);
+        }
+        tokens.add("]");
+        tokens.addAll(closing);
+        tokens.add(";");
+        if (random.nextInt(3) == 0) {
+            spoil(tokens);
+        }
+        return String.join(" ", tokens);
+    }
+
     private static String name(int i) {
         return new String[] {"aa", "house", "upper", "aaaaaaaa"}[i % 4];
     }
