@@ -826,9 +826,11 @@ public final class CarryHouse {
                     weight = number;
                     scanner.advance();
                     good = readOne();
-                } else {
-                    // a number without * begins a ONE
+                } else if (scanner.isWord("of")) {
                     good = readQuota(start, number);
+                } else {
+                    // the number itself could have been a weight: only what follows it is wrong
+                    good = fail(CANT_COME, scanner.start);
                 }
             } else {
                 good = readOne();

@@ -250,6 +250,8 @@ public final class Oracle {
                 if (now().kind() == 'n' && tokens.get(at + 1).kind() == '*') {
                     weight = Integer.parseInt(now().text());
                     at += 2;
+                } else if (now().kind() == 'n' && !tokens.get(at + 1).text().equals("of")) {
+                    throw new Fault(1, tokens.get(at + 1).at());
                 }
                 parts.add(weight);
                 items.add(one());

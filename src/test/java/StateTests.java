@@ -15,6 +15,7 @@ public final class StateTests {
         tokens();
         grammar();
         numbersAndMembers();
+        numberOfAnItem();
         names();
         tooMany();
         leastFaultOfOneToken();
@@ -295,6 +296,41 @@ public final class StateTests {
         faulty(3, "carry 1 of [d];", 2, 12);
         faulty(3, "carry d $;", 2, 6);
         faulty(3, "carry a d;", 1, 8);
+    }
+
+    /** Behind [ or an ITEM a NUMBER may be a WEIGHT or a ONE's: what follows it tells. */
+    private static void numberOfAnItem() {
+        good(3, "carry 1 of [0*a];", 0);
+        faulty(3, "carry 1 of [0 a];", 1, 14);
+        faulty(3, "carry 1 of [5 a];", 1, 14);
+        faulty(3, "carry 1 of [a 0 b];", 1, 16);
+        faulty(3, "carry 1 of [0];", 1, 13);
+        faulty(3, "carry 1 of [0 0*a];", 1, 14);
+        faulty(3, "carry 1 of [0 0 of [a]];", 1, 14);
+        faulty(3, "carry 1 of [0 $];", 1, 14);
+        faulty(3, "carry 1 of [0 d];", 1, 14);
+        faulty(3, "carry 1 of [0 off];", 1, 14);
+        faulty(3, "carry 1 of [0 o f];", 1, 14);
+        faulty(3, "carry 1 of [0", 1, 13);
+        faulty(3, "carry 1 of [0  ", 1, 15);
+        faulty(3, "carry 1 of [0" + " ".repeat(627), 1, 600);
+        faulty(3, "carry 1 of [0" + " ".repeat(587) + "of [a]];", 1, 600);
+        faulty(3, "carry 1 of [0" + " ".repeat(586) + "of [a]];", 2, 12);
+        faulty(3, "carry 1 of [0 of a];", 2, 12);
+        faulty(3, "carry 1 of [0 of", 2, 12);
+        faulty(3, "carry 1 of [5 of a];", 1, 17);
+        faulty(3, "carry 1 of [0*0 a];", 2, 14);
+        faulty(3, "carry 1 of [0*5 a];", 1, 16);
+        faulty(3, "carry 1 of [0*5*a];", 1, 15);
+        faulty(3, "carry 1 of [(0*a)];", 2, 13);
+        faulty(3, "carry 1 of [(a and 0*b)];", 2, 19);
+        faulty(3, "carry 1 of [" + A120 + "5 a];", 1, 12 + 240);
+        faulty(3, "carry 1 of [" + A120 + "0 a];", 1, 12 + 240);
+        faulty(3, "carry 1 of [" + A120 + "5", 1, 12 + 239);
+        faulty(3, "carry 1 of [" + A120 + "5 of a];", 4, 12 + 238);
+        faulty(3, "carry 1 of [" + A120 + "0 of [a]];", 2, 12 + 238);
+        faulty(3, "carry 1 of [" + A120 + "5*5 a];", 4, 12 + 240);
+        faulty(3, "carry 1 of [" + A120 + "] and 5 a;", 4, 12 + 238 + 6);
     }
 
     private static void names() {
