@@ -4,6 +4,7 @@ import java.util.NoSuchElementException;
 final class Check {
     static int wrong = 0;
     static int done = 0;
+    private static String sentence = "";
 
     private Check() { }
 
@@ -11,8 +12,13 @@ final class Check {
         done++;
         if (got != want) {
             wrong++;
-            System.out.println(what + " answered " + got + ", due is " + want);
+            System.out.println(sentence + what + " answered " + got + ", due is " + want);
         }
+    }
+
+    /** The sentence of the document that the answers from here on are held against. */
+    static void sentence(String told) {
+        sentence = "'" + told + "': ";
     }
 
     static void due(String what, boolean got, boolean want) {
@@ -61,6 +67,34 @@ final class Check {
     static int leads(CarryHouse x, boolean foreseen, int... options) {
         options(x, options);
         return x.leads(foreseen);
+    }
+
+    /** A text on a new house of n members: the fault's kind and place. */
+    static void faulty(int n, String text, int kind, int place) {
+        CarryHouse x = new CarryHouse();
+        x.members(n);
+        due("6: '" + text + "'", statute(x, text, 0), -1 - place);
+        due("7: '" + text + "'", x.fault(), kind);
+        due("6: '" + text + "' is not told", x.count(2), 0);
+    }
+
+    /** A text on a new house of n members, with so many names. */
+    static void good(int n, String text, int names) {
+        CarryHouse x = new CarryHouse();
+        x.members(n);
+        due("6: '" + text + "'", statute(x, text, 0), names);
+        due("7: '" + text + "'", x.fault(), 0);
+        due("6: '" + text + "' is told", x.count(2), 1);
+    }
+
+    /** Which sets carry, as a row of 0 and 1 from the empty set on. */
+    static void means(int n, String text, String row) {
+        CarryHouse x = house(n, text);
+        StringBuilder got = new StringBuilder();
+        for (int set = 0; set < 1 << n; set++) {
+            got.append(x.carries(set, 0));
+        }
+        due("8: '" + text + "' is " + row + ", not " + got, got.toString().equals(row), true);
     }
 
     /** A house of n members with one statute from day 0 on. */

@@ -178,258 +178,231 @@ public final class StateTests {
         Check.due("7: 0 behind a good one", x.fault(), 0);
     }
 
-    /** A text on a new house of n members: the fault's kind and place. */
-    private static void faulty(int n, String text, int kind, int place) {
-        CarryHouse x = new CarryHouse();
-        x.members(n);
-        Check.due("6: '" + text + "'", Check.statute(x, text, 0), -1 - place);
-        Check.due("7: '" + text + "'", x.fault(), kind);
-        Check.due("6: '" + text + "' is not told", x.count(2), 0);
-    }
-
-    private static void good(int n, String text, int names) {
-        CarryHouse x = new CarryHouse();
-        x.members(n);
-        Check.due("6: '" + text + "'", Check.statute(x, text, 0), names);
-        Check.due("7: '" + text + "'", x.fault(), 0);
-        Check.due("6: '" + text + "' is told", x.count(2), 1);
-    }
-
     private static void tokens() {
-        faulty(3, "", 1, 0);
-        faulty(3, "  \n ", 1, 4);
-        good(3, "\n carry\na ;\n ", 0);
-        faulty(3, "carry\ta;", 1, 5);
-        faulty(3, "carry a\r;", 1, 7);
-        faulty(3, "carry a" + (char) 0 + ";", 1, 7);
-        faulty(3, "carry " + (char) 225 + ";", 1, 6);
-        faulty(3, "carry a" + (char) 160 + ";", 1, 7);
-        faulty(3, "carry A;", 1, 6);
-        faulty(3, "carry a{;", 1, 7);
-        faulty(3, "carry a`;", 1, 7);
-        faulty(3, "carry a/;", 1, 7);
-        faulty(3, "carry a.;", 1, 7);
-        faulty(3, "carry a;.", 1, 8);
-        faulty(3, "carrya;", 1, 0);
-        faulty(3, "carry 1of [a];", 1, 6);
-        faulty(3, "carry 1 of1 [a];", 1, 8);
-        good(3, "carry 1 of[a]or(b)and c;", 0);
-        faulty(3, "carry a1;", 1, 6);
-        faulty(3, "carry 1a;", 1, 6);
-        good(3, "body abcdefgh:a;carry abcdefgh;", 1);
-        faulty(3, "body abcdefghi:a;carry abcdefghi;", 1, 5);
-        faulty(3, "body aa:a;carry abcdefghi;", 1, 16);
-        good(3, "carry 001 of [a];", 0);
-        good(3, "carry 999 of [a];", 0);
-        faulty(3, "carry 0001 of [a];", 1, 6);
-        faulty(3, "carry 1 of [0000*a];", 1, 12);
-        good(3, "carry 1 of [999*a 000*b];", 0);
+        Check.faulty(3, "", 1, 0);
+        Check.faulty(3, "  \n ", 1, 4);
+        Check.good(3, "\n carry\na ;\n ", 0);
+        Check.faulty(3, "carry\ta;", 1, 5);
+        Check.faulty(3, "carry a\r;", 1, 7);
+        Check.faulty(3, "carry a" + (char) 0 + ";", 1, 7);
+        Check.faulty(3, "carry " + (char) 225 + ";", 1, 6);
+        Check.faulty(3, "carry a" + (char) 160 + ";", 1, 7);
+        Check.faulty(3, "carry A;", 1, 6);
+        Check.faulty(3, "carry a{;", 1, 7);
+        Check.faulty(3, "carry a`;", 1, 7);
+        Check.faulty(3, "carry a/;", 1, 7);
+        Check.faulty(3, "carry a.;", 1, 7);
+        Check.faulty(3, "carry a;.", 1, 8);
+        Check.faulty(3, "carrya;", 1, 0);
+        Check.faulty(3, "carry 1of [a];", 1, 6);
+        Check.faulty(3, "carry 1 of1 [a];", 1, 8);
+        Check.good(3, "carry 1 of[a]or(b)and c;", 0);
+        Check.faulty(3, "carry a1;", 1, 6);
+        Check.faulty(3, "carry 1a;", 1, 6);
+        Check.good(3, "body abcdefgh:a;carry abcdefgh;", 1);
+        Check.faulty(3, "body abcdefghi:a;carry abcdefghi;", 1, 5);
+        Check.faulty(3, "body aa:a;carry abcdefghi;", 1, 16);
+        Check.good(3, "carry 001 of [a];", 0);
+        Check.good(3, "carry 999 of [a];", 0);
+        Check.faulty(3, "carry 0001 of [a];", 1, 6);
+        Check.faulty(3, "carry 1 of [0000*a];", 1, 12);
+        Check.good(3, "carry 1 of [999*a 000*b];", 0);
     }
 
     private static void grammar() {
-        faulty(3, "a;", 1, 0);
-        faulty(3, "; carry a;", 1, 0);
-        faulty(3, "carry", 1, 5);
-        faulty(3, "carry  ", 1, 7);
-        faulty(3, "carry;", 1, 5);
-        faulty(3, "carry a", 1, 7);
-        faulty(3, "carry a; ;", 1, 9);
-        faulty(3, "carry a; carry b;", 1, 9);
-        faulty(3, "carry a; body aa:a;", 1, 9);
-        faulty(3, "carry a b;", 1, 8);
-        faulty(3, "carry a and;", 1, 11);
-        faulty(3, "carry a or;", 1, 10);
-        faulty(3, "carry or a;", 1, 6);
-        faulty(3, "carry a and or b;", 1, 12);
-        faulty(3, "carry a of b;", 1, 8);
-        faulty(3, "carry ();", 1, 7);
-        faulty(3, "carry (a;", 1, 8);
-        faulty(3, "carry (a];", 1, 8);
-        faulty(3, "carry a);", 1, 7);
-        faulty(3, "carry [a];", 1, 6);
-        faulty(3, "carry 1;", 1, 7);
-        faulty(3, "carry 1*a;", 1, 7);
-        faulty(3, "carry 1 of (a);", 1, 11);
-        faulty(3, "carry 1 of [];", 1, 12);
-        faulty(3, "carry 1 of [a;", 1, 13);
-        faulty(3, "carry 1 of [a)];", 1, 13);
-        faulty(3, "carry 1 of [a and b];", 1, 14);
-        faulty(3, "carry 1 of [a or b];", 1, 14);
-        good(3, "carry 1 of [(a and b) c];", 0);
-        faulty(3, "carry 1 of [2 a];", 1, 14);
-        faulty(3, "carry 1 of [2*];", 1, 14);
-        faulty(3, "carry 1 of [2*3*a];", 1, 15);
-        good(3, "carry 1 of [2*3 of [a b 2*c]];", 0);
-        faulty(3, "carry 1 of [*a];", 1, 12);
-        faulty(3, "carry 1 of [a*2];", 1, 13);
-        faulty(3, "body", 1, 4);
-        faulty(3, "body aa", 1, 7);
-        faulty(3, "body aa:", 1, 8);
-        faulty(3, "body aa:;", 1, 8);
-        faulty(3, "body aa a;", 1, 8);
-        faulty(3, "body aa:a", 1, 9);
-        faulty(3, "body aa:a;", 1, 10);
-        faulty(3, "body aa:a; a", 1, 11);
-        faulty(3, "body aa:a carry a;", 1, 10);
-        faulty(3, "body a:a;carry a;", 1, 5);
-        faulty(3, "body 1:a;carry a;", 1, 5);
+        Check.faulty(3, "a;", 1, 0);
+        Check.faulty(3, "; carry a;", 1, 0);
+        Check.faulty(3, "carry", 1, 5);
+        Check.faulty(3, "carry  ", 1, 7);
+        Check.faulty(3, "carry;", 1, 5);
+        Check.faulty(3, "carry a", 1, 7);
+        Check.faulty(3, "carry a; ;", 1, 9);
+        Check.faulty(3, "carry a; carry b;", 1, 9);
+        Check.faulty(3, "carry a; body aa:a;", 1, 9);
+        Check.faulty(3, "carry a b;", 1, 8);
+        Check.faulty(3, "carry a and;", 1, 11);
+        Check.faulty(3, "carry a or;", 1, 10);
+        Check.faulty(3, "carry or a;", 1, 6);
+        Check.faulty(3, "carry a and or b;", 1, 12);
+        Check.faulty(3, "carry a of b;", 1, 8);
+        Check.faulty(3, "carry ();", 1, 7);
+        Check.faulty(3, "carry (a;", 1, 8);
+        Check.faulty(3, "carry (a];", 1, 8);
+        Check.faulty(3, "carry a);", 1, 7);
+        Check.faulty(3, "carry [a];", 1, 6);
+        Check.faulty(3, "carry 1;", 1, 7);
+        Check.faulty(3, "carry 1*a;", 1, 7);
+        Check.faulty(3, "carry 1 of (a);", 1, 11);
+        Check.faulty(3, "carry 1 of [];", 1, 12);
+        Check.faulty(3, "carry 1 of [a;", 1, 13);
+        Check.faulty(3, "carry 1 of [a)];", 1, 13);
+        Check.faulty(3, "carry 1 of [a and b];", 1, 14);
+        Check.faulty(3, "carry 1 of [a or b];", 1, 14);
+        Check.good(3, "carry 1 of [(a and b) c];", 0);
+        Check.faulty(3, "carry 1 of [2 a];", 1, 14);
+        Check.faulty(3, "carry 1 of [2*];", 1, 14);
+        Check.faulty(3, "carry 1 of [2*3*a];", 1, 15);
+        Check.good(3, "carry 1 of [2*3 of [a b 2*c]];", 0);
+        Check.faulty(3, "carry 1 of [*a];", 1, 12);
+        Check.faulty(3, "carry 1 of [a*2];", 1, 13);
+        Check.faulty(3, "body", 1, 4);
+        Check.faulty(3, "body aa", 1, 7);
+        Check.faulty(3, "body aa:", 1, 8);
+        Check.faulty(3, "body aa:;", 1, 8);
+        Check.faulty(3, "body aa a;", 1, 8);
+        Check.faulty(3, "body aa:a", 1, 9);
+        Check.faulty(3, "body aa:a;", 1, 10);
+        Check.faulty(3, "body aa:a; a", 1, 11);
+        Check.faulty(3, "body aa:a carry a;", 1, 10);
+        Check.faulty(3, "body a:a;carry a;", 1, 5);
+        Check.faulty(3, "body 1:a;carry a;", 1, 5);
         String[] kept = {"body", "carry", "and", "or", "of"};
         for (String word : kept) {
-            faulty(3, "body " + word + ":a;carry a;", 1, 5);
-            faulty(3, "carry " + word + ";", 1, 6);
+            Check.faulty(3, "body " + word + ":a;carry a;", 1, 5);
+            Check.faulty(3, "carry " + word + ";", 1, 6);
         }
-        good(3, "body ofof:a;body andy:b;body bod:c;carry ofof or andy or bod;", 3);
+        Check.good(3, "body ofof:a;body andy:b;body bod:c;carry ofof or andy or bod;", 3);
     }
 
     private static void numbersAndMembers() {
-        faulty(3, "carry d;", 2, 6);
-        good(4, "carry d;", 0);
-        faulty(12, "carry l or m;", 2, 11);
-        faulty(1, "carry a and (b);", 2, 13);
-        faulty(3, "carry z;", 2, 6);
-        faulty(3, "carry 0 of [a];", 2, 6);
-        faulty(3, "carry 000 of [a];", 2, 6);
-        faulty(3, "carry 0;", 2, 6);
-        faulty(3, "carry 1 of [0 of [a]];", 2, 12);
-        faulty(3, "carry 1 of [a 0 of [a]];", 2, 14);
-        faulty(3, "carry 1 of [0*0 of [a]];", 2, 14);
-        faulty(3, "carry 1 of [d];", 2, 12);
-        faulty(3, "carry d $;", 2, 6);
-        faulty(3, "carry a d;", 1, 8);
+        Check.faulty(3, "carry d;", 2, 6);
+        Check.good(4, "carry d;", 0);
+        Check.faulty(12, "carry l or m;", 2, 11);
+        Check.faulty(1, "carry a and (b);", 2, 13);
+        Check.faulty(3, "carry z;", 2, 6);
+        Check.faulty(3, "carry 0 of [a];", 2, 6);
+        Check.faulty(3, "carry 000 of [a];", 2, 6);
+        Check.faulty(3, "carry 0;", 2, 6);
+        Check.faulty(3, "carry 1 of [0 of [a]];", 2, 12);
+        Check.faulty(3, "carry 1 of [a 0 of [a]];", 2, 14);
+        Check.faulty(3, "carry 1 of [0*0 of [a]];", 2, 14);
+        Check.faulty(3, "carry 1 of [d];", 2, 12);
+        Check.faulty(3, "carry d $;", 2, 6);
+        Check.faulty(3, "carry a d;", 1, 8);
     }
 
     /** Behind [ or an ITEM a NUMBER may be a WEIGHT or a ONE's: what follows it tells. */
     private static void numberOfAnItem() {
-        good(3, "carry 1 of [0*a];", 0);
-        faulty(3, "carry 1 of [0 a];", 1, 14);
-        faulty(3, "carry 1 of [5 a];", 1, 14);
-        faulty(3, "carry 1 of [a 0 b];", 1, 16);
-        faulty(3, "carry 1 of [0];", 1, 13);
-        faulty(3, "carry 1 of [0 0*a];", 1, 14);
-        faulty(3, "carry 1 of [0 0 of [a]];", 1, 14);
-        faulty(3, "carry 1 of [0 $];", 1, 14);
-        faulty(3, "carry 1 of [0 d];", 1, 14);
-        faulty(3, "carry 1 of [0 off];", 1, 14);
-        faulty(3, "carry 1 of [0 o f];", 1, 14);
-        faulty(3, "carry 1 of [0", 1, 13);
-        faulty(3, "carry 1 of [0  ", 1, 15);
-        faulty(3, "carry 1 of [0" + " ".repeat(627), 1, 600);
-        faulty(3, "carry 1 of [0" + " ".repeat(587) + "of [a]];", 1, 600);
-        faulty(3, "carry 1 of [0" + " ".repeat(586) + "of [a]];", 2, 12);
-        faulty(3, "carry 1 of [0 of a];", 2, 12);
-        faulty(3, "carry 1 of [0 of", 2, 12);
-        faulty(3, "carry 1 of [5 of a];", 1, 17);
-        faulty(3, "carry 1 of [0*0 a];", 2, 14);
-        faulty(3, "carry 1 of [0*5 a];", 1, 16);
-        faulty(3, "carry 1 of [0*5*a];", 1, 15);
-        faulty(3, "carry 1 of [(0*a)];", 2, 13);
-        faulty(3, "carry 1 of [(a and 0*b)];", 2, 19);
-        faulty(3, "carry 1 of [" + A120 + "5 a];", 1, 12 + 240);
-        faulty(3, "carry 1 of [" + A120 + "0 a];", 1, 12 + 240);
-        faulty(3, "carry 1 of [" + A120 + "5", 1, 12 + 239);
-        faulty(3, "carry 1 of [" + A120 + "5 of a];", 4, 12 + 238);
-        faulty(3, "carry 1 of [" + A120 + "0 of [a]];", 2, 12 + 238);
-        faulty(3, "carry 1 of [" + A120 + "5*5 a];", 4, 12 + 240);
-        faulty(3, "carry 1 of [" + A120 + "] and 5 a;", 4, 12 + 238 + 6);
+        Check.good(3, "carry 1 of [0*a];", 0);
+        Check.faulty(3, "carry 1 of [0 a];", 1, 14);
+        Check.faulty(3, "carry 1 of [5 a];", 1, 14);
+        Check.faulty(3, "carry 1 of [a 0 b];", 1, 16);
+        Check.faulty(3, "carry 1 of [0];", 1, 13);
+        Check.faulty(3, "carry 1 of [0 0*a];", 1, 14);
+        Check.faulty(3, "carry 1 of [0 0 of [a]];", 1, 14);
+        Check.faulty(3, "carry 1 of [0 $];", 1, 14);
+        Check.faulty(3, "carry 1 of [0 d];", 1, 14);
+        Check.faulty(3, "carry 1 of [0 off];", 1, 14);
+        Check.faulty(3, "carry 1 of [0 o f];", 1, 14);
+        Check.faulty(3, "carry 1 of [0", 1, 13);
+        Check.faulty(3, "carry 1 of [0  ", 1, 15);
+        Check.faulty(3, "carry 1 of [0" + " ".repeat(627), 1, 600);
+        Check.faulty(3, "carry 1 of [0" + " ".repeat(587) + "of [a]];", 1, 600);
+        Check.faulty(3, "carry 1 of [0" + " ".repeat(586) + "of [a]];", 2, 12);
+        Check.faulty(3, "carry 1 of [0 of a];", 2, 12);
+        Check.faulty(3, "carry 1 of [0 of", 2, 12);
+        Check.faulty(3, "carry 1 of [5 of a];", 1, 17);
+        Check.faulty(3, "carry 1 of [0*0 a];", 2, 14);
+        Check.faulty(3, "carry 1 of [0*5 a];", 1, 16);
+        Check.faulty(3, "carry 1 of [0*5*a];", 1, 15);
+        Check.faulty(3, "carry 1 of [(0*a)];", 2, 13);
+        Check.faulty(3, "carry 1 of [(a and 0*b)];", 2, 19);
+        Check.faulty(3, "carry 1 of [" + A120 + "5 a];", 1, 12 + 240);
+        Check.faulty(3, "carry 1 of [" + A120 + "0 a];", 1, 12 + 240);
+        Check.faulty(3, "carry 1 of [" + A120 + "5", 1, 12 + 239);
+        Check.faulty(3, "carry 1 of [" + A120 + "5 of a];", 4, 12 + 238);
+        Check.faulty(3, "carry 1 of [" + A120 + "0 of [a]];", 2, 12 + 238);
+        Check.faulty(3, "carry 1 of [" + A120 + "5*5 a];", 4, 12 + 240);
+        Check.faulty(3, "carry 1 of [" + A120 + "] and 5 a;", 4, 12 + 238 + 6);
     }
 
     private static void names() {
-        faulty(3, "carry aa;", 3, 6);
-        faulty(3, "body aa:aa;carry a;", 3, 8);
-        faulty(3, "body aa:bb;body bb:a;carry aa;", 3, 8);
-        faulty(3, "body aa:a;body aa:b;carry aa;", 3, 15);
-        faulty(3, "body aa:a;body ab:b;carry ac;", 3, 26);
-        faulty(3, "body aa:a;carry ba;", 3, 16);
-        faulty(3, "body aa:a;carry aaa;", 3, 16);
-        faulty(3, "body aaa:a;carry aa;", 3, 17);
-        good(3, "body aa:a;body aaa:aa;body ab:aaa and aa;carry ab;", 3);
-        faulty(3, "carry 1 of [2*aa];", 3, 14);
+        Check.faulty(3, "carry aa;", 3, 6);
+        Check.faulty(3, "body aa:aa;carry a;", 3, 8);
+        Check.faulty(3, "body aa:bb;body bb:a;carry aa;", 3, 8);
+        Check.faulty(3, "body aa:a;body aa:b;carry aa;", 3, 15);
+        Check.faulty(3, "body aa:a;body ab:b;carry ac;", 3, 26);
+        Check.faulty(3, "body aa:a;carry ba;", 3, 16);
+        Check.faulty(3, "body aa:a;carry aaa;", 3, 16);
+        Check.faulty(3, "body aaa:a;carry aa;", 3, 17);
+        Check.good(3, "body aa:a;body aaa:aa;body ab:aaa and aa;carry ab;", 3);
+        Check.faulty(3, "carry 1 of [2*aa];", 3, 14);
     }
 
     private static void tooMany() {
-        good(3, "carry 1 of [" + A120 + "];", 0);
-        faulty(3, "carry 1 of [" + A120 + "a];", 4, 12 + 238);
-        faulty(3, "carry 1 of [" + A120 + "5*a];", 4, 12 + 240);
-        faulty(3, "carry 1 of [" + A120 + "(a)];", 4, 12 + 238);
-        faulty(3, "carry 1 of [" + A120 + "2 of [a]];", 4, 12 + 238);
-        faulty(3, "body aa:1 of [" + A120 + "];carry aa;", 4, 14 + 238 + 8);
+        Check.good(3, "carry 1 of [" + A120 + "];", 0);
+        Check.faulty(3, "carry 1 of [" + A120 + "a];", 4, 12 + 238);
+        Check.faulty(3, "carry 1 of [" + A120 + "5*a];", 4, 12 + 240);
+        Check.faulty(3, "carry 1 of [" + A120 + "(a)];", 4, 12 + 238);
+        Check.faulty(3, "carry 1 of [" + A120 + "2 of [a]];", 4, 12 + 238);
+        Check.faulty(3, "body aa:1 of [" + A120 + "];carry aa;", 4, 14 + 238 + 8);
         String twelve = "(".repeat(12);
         String closed = ")".repeat(12);
-        good(3, "carry " + twelve + "a" + closed + " and " + twelve + "b" + closed + ";", 0);
-        faulty(3, "carry (" + twelve + "a)" + closed + ";", 4, 18);
+        Check.good(3, "carry " + twelve + "a" + closed + " and " + twelve + "b" + closed + ";", 0);
+        Check.faulty(3, "carry (" + twelve + "a)" + closed + ";", 4, 18);
         String nested = "1 of[".repeat(12);
-        good(3, "carry " + nested + "a" + "]".repeat(12) + ";", 0);
-        faulty(3, "carry " + nested + "1 of [a]" + "]".repeat(12) + ";", 4, 6 + 60 + 5);
-        faulty(3, "carry " + nested + "(a)" + "]".repeat(12) + ";", 4, 6 + 60);
+        Check.good(3, "carry " + nested + "a" + "]".repeat(12) + ";", 0);
+        Check.faulty(3, "carry " + nested + "1 of [a]" + "]".repeat(12) + ";", 4, 6 + 60 + 5);
+        Check.faulty(3, "carry " + nested + "(a)" + "]".repeat(12) + ";", 4, 6 + 60);
         StringBuilder bodies = new StringBuilder();
         for (int i = 0; i < 16; i++) {
             bodies.append("body x").append((char) ('a' + i)).append(":a;");
         }
-        good(3, bodies + "carry xp;", 16);
-        faulty(3, bodies + "body xq:a;carry xp;", 4, 160 + 5);
+        Check.good(3, bodies + "carry xp;", 16);
+        Check.faulty(3, bodies + "body xq:a;carry xp;", 4, 160 + 5);
     }
 
     private static void leastFaultOfOneToken() {
-        faulty(3, "carry 1 of [" + A120 + "d];", 2, 12 + 238);
-        faulty(3, "carry 1 of [" + A120 + "aa];", 3, 12 + 238);
-        faulty(3, "carry 1 of [" + A120 + "or];", 1, 12 + 238);
-        faulty(3, "carry 1 of [" + A120 + "5*0 of [a]];", 2, 12 + 240);
+        Check.faulty(3, "carry 1 of [" + A120 + "d];", 2, 12 + 238);
+        Check.faulty(3, "carry 1 of [" + A120 + "aa];", 3, 12 + 238);
+        Check.faulty(3, "carry 1 of [" + A120 + "or];", 1, 12 + 238);
+        Check.faulty(3, "carry 1 of [" + A120 + "5*0 of [a]];", 2, 12 + 240);
         StringBuilder bodies = new StringBuilder();
         for (int i = 0; i < 16; i++) {
             bodies.append("body x").append((char) ('a' + i)).append(":a;");
         }
-        faulty(3, bodies + "body xc:a;carry xp;", 3, 160 + 5);
-        faulty(3, bodies + "body of:a;carry xp;", 1, 160 + 5);
+        Check.faulty(3, bodies + "body xc:a;carry xp;", 3, 160 + 5);
+        Check.faulty(3, bodies + "body of:a;carry xp;", 1, 160 + 5);
     }
 
     private static void longTexts() {
         String tail = " ".repeat(592);
-        good(3, "carry a;" + tail, 0);
-        faulty(3, "carry a;" + tail + " ", 1, 600);
-        faulty(3, "carry a;" + tail + " ;", 1, 600);
-        faulty(3, "carry a;" + tail.substring(1) + ";", 1, 599);
-        faulty(3, "carry a;" + tail.substring(1) + ";" + tail.substring(560), 1, 599);
-        faulty(3, tail + "carry a ", 1, 600);
-        faulty(3, tail + "     carry a;", 1, 600);
-        faulty(3, tail + "    abcdefghi;", 1, 596);
-        faulty(3, tail + "  carry abc;", 1, 600);
-        faulty(3, tail + " carry abc;", 3, 599);
-        faulty(3, "body abc:a;" + " ".repeat(581) + " carry abc;", 1, 600);
-        faulty(3, "carry d;" + tail + tail.substring(560), 2, 6);
-        faulty(3, " ".repeat(640), 1, 600);
-        faulty(3, " ".repeat(600), 1, 600);
-    }
-
-    /** Which sets carry, as a row of 0 and 1 from the empty set on. */
-    private static void means(int n, String text, String row) {
-        CarryHouse x = Check.house(n, text);
-        StringBuilder got = new StringBuilder();
-        for (int set = 0; set < 1 << n; set++) {
-            got.append(x.carries(set, 0));
-        }
-        Check.due("8: '" + text + "' is " + row + ", not " + got, got.toString().equals(row), true);
+        Check.good(3, "carry a;" + tail, 0);
+        Check.faulty(3, "carry a;" + tail + " ", 1, 600);
+        Check.faulty(3, "carry a;" + tail + " ;", 1, 600);
+        Check.faulty(3, "carry a;" + tail.substring(1) + ";", 1, 599);
+        Check.faulty(3, "carry a;" + tail.substring(1) + ";" + tail.substring(560), 1, 599);
+        Check.faulty(3, tail + "carry a ", 1, 600);
+        Check.faulty(3, tail + "     carry a;", 1, 600);
+        Check.faulty(3, tail + "    abcdefghi;", 1, 596);
+        Check.faulty(3, tail + "  carry abc;", 1, 600);
+        Check.faulty(3, tail + " carry abc;", 3, 599);
+        Check.faulty(3, "body abc:a;" + " ".repeat(581) + " carry abc;", 1, 600);
+        Check.faulty(3, "carry d;" + tail + tail.substring(560), 2, 6);
+        Check.faulty(3, " ".repeat(640), 1, 600);
+        Check.faulty(3, " ".repeat(600), 1, 600);
     }
 
     private static void meaning() {
-        means(3, "carry a;", "01010101");
-        means(3, "carry c;", "00001111");
-        means(3, "carry a or b and c;", "01010111");
-        means(3, "carry (a or b) and c;", "00000111");
-        means(3, "carry a and b or c;", "00011111");
-        means(3, "carry a and b and c or a and c;", "00000101");
-        means(3, "carry 2 of [a b c];", "00010111");
-        means(3, "carry 2 of [2*a b c];", "01010111");
-        means(3, "carry 3 of [2*a 0*b c c];", "00000101");
-        means(3, "carry 4 of [a b c];", "00000000");
-        means(3, "carry 2 of [a a b];", "01010101");
-        means(3, "carry 3 of [2*(a or b) 1 of [b c]];", "00110111");
-        means(3, "carry 999 of [998*a b];", "00010001");
-        means(3, "carry 999 of [998*a 0*b];", "00000000");
-        means(3, "body up:2 of [a b c];body low:up and c;carry low or a and b;", "00010111");
-        means(3, "body up:a;body low:b;carry up and low;", "00010001");
-        means(3, "body up:a or b;body low:up and c;carry 2 of [up 2*low];", "00000111");
-        means(2, "carry 2 of [3*1 of [a b]];", "0111");
-        means(1, "carry a;", "01");
+        Check.means(3, "carry a;", "01010101");
+        Check.means(3, "carry c;", "00001111");
+        Check.means(3, "carry a or b and c;", "01010111");
+        Check.means(3, "carry (a or b) and c;", "00000111");
+        Check.means(3, "carry a and b or c;", "00011111");
+        Check.means(3, "carry a and b and c or a and c;", "00000101");
+        Check.means(3, "carry 2 of [a b c];", "00010111");
+        Check.means(3, "carry 2 of [2*a b c];", "01010111");
+        Check.means(3, "carry 3 of [2*a 0*b c c];", "00000101");
+        Check.means(3, "carry 4 of [a b c];", "00000000");
+        Check.means(3, "carry 2 of [a a b];", "01010101");
+        Check.means(3, "carry 3 of [2*(a or b) 1 of [b c]];", "00110111");
+        Check.means(3, "carry 999 of [998*a b];", "00010001");
+        Check.means(3, "carry 999 of [998*a 0*b];", "00000000");
+        Check.means(3, "body up:2 of [a b c];body low:up and c;carry low or a and b;", "00010111");
+        Check.means(3, "body up:a;body low:b;carry up and low;", "00010001");
+        Check.means(3, "body up:a or b;body low:up and c;carry 2 of [up 2*low];", "00000111");
+        Check.means(2, "carry 2 of [3*1 of [a b]];", "0111");
+        Check.means(1, "carry a;", "01");
     }
 
     private static void inForce() {
