@@ -118,9 +118,9 @@ public final class EdgeChoiceTests {
         Check.sentence("Promise 18: false: .. not all of them once");
         CarryHouse x = Check.house(3, "carry b;");
         int[][] wrong = {
-            {}, {0}, {0, 1, 2, 3, 4, 5}, {6, 5, 4, 3, 2, 1}, {6, 5, 4, 3, 2, 1, 1}, {6, 6, 4, 3, 2, 1, 0}, {7, 5, 4, 3, 2, 1, 0},
-            {6, 5, 4, 3, 2, 1, 7}, {6, 5, 4, 3, 2, 1, 255}, {134, 5, 4, 3, 2, 1, 0}, {6, 5, 4, 3, 2, 1, 32}, {6, 5, 4, 3, 2, 1, 0, 0},
-            {6, 5, 4, 3, 2, 1, 0, 7}, {'6', '5', '4', '3', '2', '1', '0'}
+            {}, {0}, {0, 1, 2, 3, 4, 5}, {6, 5, 4, 3, 2, 1}, {6, 5, 4, 3, 2, 1, 1}, {6, 6, 4, 3, 2, 1, 0},
+            {7, 5, 4, 3, 2, 1, 0}, {6, 5, 4, 3, 2, 1, 7}, {6, 5, 4, 3, 2, 1, 255}, {134, 5, 4, 3, 2, 1, 0},
+            {6, 5, 4, 3, 2, 1, 32}, {6, 5, 4, 3, 2, 1, 0, 0}, {6, 5, 4, 3, 2, 1, 0, 7}, {'6', '5', '4', '3', '2', '1', '0'}
         };
         for (int[] order : wrong) {
             Check.due("rank of " + order.length + " bytes", Check.rank(x, 1, order), false);
@@ -413,6 +413,11 @@ public final class EdgeChoiceTests {
         Check.due("the 60th counts", x.unfit(0), 59);
         Check.due("the 60th counts here too", x.sure(6, 0), 1);
         Check.due("the 61st does not", x.sure(0, 1), 2);
+        CarryHouse fit = new CarryHouse();
+        for (int i = 0; i < 60; i++) {
+            fit.vote(7, true);
+        }
+        Check.due("sixty that fit", fit.unfit(0), -1);
     }
 
     private static void noSuchSet() {

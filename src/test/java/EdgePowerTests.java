@@ -190,7 +190,8 @@ public final class EdgePowerTests {
     }
 
     private static void setsAt() {
-        Check.sentence("Promise 10: The k-th (0 the first) LEAST (kind 1), HINDER (2), as bits; NEEDED (3), IDLE (4), all as bits (k 0)");
+        Check.sentence("Promise 10: The k-th (0 the first) LEAST (kind 1), HINDER (2), as bits; "
+            + "NEEDED (3), IDLE (4), all as bits (k 0)");
         CarryHouse x = Check.house(4, "carry a and (b or c);");
         Check.due("the first", x.setAt(1, 0), 3);
         Check.due("the last", x.setAt(1, 1), 5);
@@ -267,6 +268,8 @@ public final class EdgePowerTests {
 
     private static void shareWithoutCommonDivisor() {
         Check.sentence("an exact fraction told by two numbers without a divisor in common (0 is 0 by 1)");
+        Check.share(Check.house(3, "carry a and (b or c);"), 0, 0, 3, 5);
+        Check.share(Check.house(3, "carry a and (b or c);"), 1, 0, 1, 5);
         Check.share(Check.house(4, "carry 2 of [a b];"), 0, 0, 1, 2);
         Check.share(Check.house(4, "carry 2 of [a b];"), 3, 0, 0, 1);
         Check.share(Check.house(4, "carry 2 of [a b];"), 3, 1, 0, 1);
@@ -484,10 +487,11 @@ public final class EdgePowerTests {
         Check.due("row 5001", x.weigh(), -2);
         Check.due("no weight", x.weight(0), -1);
         Check.due("no number", x.weight(12), -1);
-        Check.due("row 5000, the weakest first", Check.house(10, "carry 29 of [1*a 10*b 4*c 3*d 11*e 6*f 7*g 1*h 4*i 9*j];").weigh(), 56);
+        Check.due("row 5000, the weakest first",
+            Check.house(10, "carry 29 of [1*a 10*b 4*c 3*d 11*e 6*f 7*g 1*h 4*i 9*j];").weigh(), 56);
         Check.due("row 5001, the weakest first",
             Check.house(11, "carry 27 of [1*a 10*b 2*c 8*d 2*e 2*f 4*g 9*h 1*i 2*j 11*k];").weigh(), -2);
-        CarryHouse lined = Check.house(8, "carry 7 of [1*a 0*b 1*c 4*d 0*e 2*f 0*g 1*h] and 7 of [1*a 1*b 1*c 3*d 1*e 1*f 1*g 1*h];");
+        CarryHouse lined = Check.house(8, "carry 7 of [a c 4*d 2*f h] and 7 of [a b c 3*d e f g h];");
         Check.due("lined, but no weights do", lined.many(7), 1);
         Check.due("given up ahead of 60", lined.weigh(), -2);
     }
@@ -507,9 +511,10 @@ public final class EdgePowerTests {
     private static void notLined() {
         Check.sentence("Promise 16: NONE: not LINED");
         Check.due("two pairs", Check.house(4, "carry a and b or c and d;").weigh(), -1);
-        Check.due("with many rows", Check.house(5, "carry 13 of [8*a 4*b 4*c 6*d 3*e] or 13 of [7*a 4*b 8*c 0*d 5*e];").weigh(), -1);
-        Check.due("with many rows, of nine",
-            Check.house(9, "carry 15 of [2*a 1*b 4*c 4*d 7*e 3*f 1*g 3*h 3*i] or 15 of [4*a 1*b 3*c 0*d 6*e 4*f 4*g 7*h 0*i];").weigh(), -1);
+        String five = "carry 13 of [8*a 4*b 4*c 6*d 3*e] or 13 of [7*a 4*b 8*c 5*e];";
+        Check.due("with many rows", Check.house(5, five).weigh(), -1);
+        String nine = "carry 15 of [2*a b 4*c 4*d 7*e 3*f g 3*h 3*i] or 15 of [4*a b 3*c 6*e 4*f 4*g 7*h];";
+        Check.due("with many rows, of nine", Check.house(9, nine).weigh(), -1);
     }
 
     private static void noWeightsWhereNoneCarries() {
@@ -566,6 +571,15 @@ public final class EdgePowerTests {
                 Check.due("weight(" + far + ")", x.weight(far), -1);
             }
         }
+        CarryHouse few = new CarryHouse();
+        few.members(5);
+        few.weigh();
+        few.members(3);
+        Check.due("not there now", few.weight(3), -1);
+        few.weigh();
+        few.members(5);
+        Check.due("there then", few.weight(2), 1);
+        Check.due("not there then", few.weight(3), -1);
         CarryHouse y = Check.house(4, "carry a and b or c and d;");
         y.weigh();
         Check.due("ahead of any sum", y.weight(0), -1);

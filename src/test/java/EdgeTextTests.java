@@ -31,6 +31,7 @@ public final class EdgeTextTests {
         namesToldTwice();
         ones();
         openAtOnce();
+        deepMeaning();
         seventeenNames();
         eachTextAnew();
         howManyNames();
@@ -75,7 +76,7 @@ public final class EdgeTextTests {
     private static void blanks() {
         Check.sentence("TOKENS, with blanks (32, 10) between them or not");
         Check.good(3, "body aa:1 of[2*a(b)]or c;carry aa;", 1);
-        Check.good(3, " \n body \n aa \n : \n 1 \n of \n [ \n 2 \n * \n a \n ( \n b \n ) \n ] \n or \n c \n ; \n carry \n aa \n ; \n ", 1);
+        Check.good(3, "body aa : 1 of [ 2 * a ( b ) ] or c ; carry aa ; ".replace(" ", " \n "), 1);
         Check.good(3, "carry\na\nand\nb\n;\n", 0);
         Check.faulty(3, "carrya;", 1, 0);
         Check.faulty(3, "carry a andb;", 1, 8);
@@ -148,6 +149,9 @@ public final class EdgeTextTests {
         Check.faulty(3, "carry a;carry b;", 1, 8);
         Check.faulty(3, "carry a;body aa:a;", 1, 8);
         Check.faulty(3, "carry a;;", 1, 8);
+        Check.faulty(3, "carry a;$", 1, 8);
+        Check.faulty(3, "carry a;1a", 1, 8);
+        Check.faulty(3, "carry a; a", 1, 9);
         Check.faulty(3, "body aa:a,carry a;", 1, 9);
         Check.faulty(3, "aa:a;carry a;", 1, 0);
         Check.faulty(3, "body aa a;carry a;", 1, 8);
@@ -204,7 +208,13 @@ public final class EdgeTextTests {
     }
 
     private static void noEmptyItems() {
-        Check.sentence("NUMBER 'of' [ ITEM { ITEM } ]");
+        Check.sentence("( RULE ) | NUMBER 'of' [ ITEM { ITEM } ]");
+        Check.faulty(3, "carry 1 of (a);", 1, 11);
+        Check.faulty(3, "carry 1 of a;", 1, 11);
+        Check.faulty(3, "carry [a];", 1, 6);
+        Check.faulty(3, "carry (a];", 1, 8);
+        Check.faulty(3, "carry 1 of [a);", 1, 13);
+        Check.faulty(3, "carry 1 of [a and b];", 1, 14);
         Check.good(3, "carry 1 of [a];", 0);
         Check.faulty(3, "carry 1 of [];", 1, 12);
         Check.faulty(3, "carry 1 of [ ];", 1, 13);
@@ -388,6 +398,15 @@ public final class EdgeTextTests {
         Check.faulty(3, "carry " + square.replace("a", "a 1 of [b]") + ";", 4, 73);
         Check.good(3, "carry 1 of [" + "(a) 1 of [b] ".repeat(20) + "];", 0);
         Check.good(3, "carry " + "(".repeat(11) + "(a) and (b) or 1 of [c]" + ")".repeat(11) + ";", 0);
+    }
+
+    /** What is twelve deep means what it should. */
+    private static void deepMeaning() {
+        Check.sentence("'or', 'and' as one of them, as all do: twelve open at once");
+        Check.means(3, "carry " + "a or b and (".repeat(12) + "c" + ")".repeat(12) + ";", "01010111");
+        Check.means(3, "carry " + "(a or b and 1 of [0*a ".repeat(6) + "c" + "])".repeat(6) + ";", "01010111");
+        Check.means(3, "carry " + "3 of [2*a 2*b ".repeat(12) + "c" + "]".repeat(12) + ";", "00010111");
+        Check.means(3, "carry " + "(a and b or 1 of[".repeat(6) + "c" + "])".repeat(6) + ";", "00011111");
     }
 
     private static void seventeenNames() {
